@@ -431,6 +431,11 @@ public final class PromiseTest {
         for (int g : new int[] {-1, 3, LOW, HIGH}) {
             due("willBe(" + g + ")", x.willBe(g), BAD);
         }
+        ToastBelt slow = laid("l40;k1;h1,1;g0,40,40;");
+        due("knobFor(0, 1) of 40 moments", slow.knobFor(0, 1), 1);
+        slow.putIn(0, 1);
+        due("willBe(0) behind 40 moments", slow.willBe(0), 40);
+        due("harm(2) of 40 moments", slow.harm(2), 1);
     }
 
     private static void contents() {
@@ -455,18 +460,18 @@ public final class PromiseTest {
         due("bits are those who ate", y.content(), 2);
     }
 
+    /** knobFor (promise 16), often (17) or waits (18). */
+    private static int askOfThree(ToastBelt x, int g, int lane) {
+        return promise == 16 ? x.knobFor(g, lane) : promise == 17 ? x.often(g, lane) : x.waits(g, lane);
+    }
+
     private static void refusals(ToastBelt x, int riding, int eaten) {
-        int[][] bad = {{-1, 0}, {9, 0}, {riding, 2}, {riding, -1}, {LOW, 0}, {HIGH, 0}, {0, LOW}, {0, HIGH}};
+        int[][] bad = {{-1, 0}, {2, 0}, {riding, 2}, {riding, -1}, {LOW, 0}, {HIGH, 0}, {0, LOW}, {0, HIGH}};
         for (int[] b : bad) {
-            due("knobFor(" + b[0] + ", " + b[1] + ")", x.knobFor(b[0], b[1]), promise == 16 ? BAD : x.knobFor(b[0], b[1]));
-            due("often(" + b[0] + ", " + b[1] + ")", x.often(b[0], b[1]), promise == 17 ? BAD : x.often(b[0], b[1]));
-            due("waits(" + b[0] + ", " + b[1] + ")", x.waits(b[0], b[1]), promise == 18 ? BAD : x.waits(b[0], b[1]));
+            due("of " + b[0] + ", " + b[1], askOfThree(x, b[0], b[1]), BAD);
         }
-        for (int g : new int[] {riding, eaten}) {
-            due("knobFor(g, 0), not to be had", x.knobFor(g, 0), promise == 16 ? NO : x.knobFor(g, 0));
-            due("often(g, 0), not to be had", x.often(g, 0), promise == 17 ? NO : x.often(g, 0));
-            due("waits(g, 0), not to be had", x.waits(g, 0), promise == 18 ? NO : x.waits(g, 0));
-        }
+        due("of one on the belt", askOfThree(x, riding, 1), NO);
+        due("of one that is eaten", askOfThree(x, eaten, 1), NO);
     }
 
     private static ToastBelt oneRidesOneIsEaten() {
@@ -538,7 +543,10 @@ public final class PromiseTest {
         due("waits() changes nothing", x.count(3) * 100 + x.count(4), 0);
         x.putIn(0, 1);
         due("waits(1, 1), two moments more", x.waits(1, 1), 12);
-        x.pass(2);
+        x.pass(1);
+        due("waits(2, 1), at heat 30 behind 31", x.waits(2, 1), NONE);
+        x.pass(1);
+        due("waits(2, 1), at heat 30 behind 30", x.waits(2, 1), 30);
         due("waits(1, 1)", x.waits(1, 1), 10);
         x.pass(60);
         x.putIn(5, 0);
@@ -619,6 +627,13 @@ public final class PromiseTest {
         ToastBelt nine = tray("g0,0,99;g0,0,99;g0,0,99;g0,0,99;g0,0,99;g0,0,99;g0,0,99;g0,0,99;g0,10,10;",
             1, 0, 0, 0, 0, 0, 0, 0, 0);
         shares(nine, 9, 1, 2, 3, 4, 5, 6, 7, 8, 0);
+        // Slice s is 5 + s brown; guest 8 wants the first one alone, so all others have to move on by one.
+        ToastBelt chain = laid("l2;k9;h5,30;g0,5,6;g0,6,7;g0,7,8;g0,8,9;g0,9,10;g0,10,11;g0,11,12;g0,12,13;g0,5,5;");
+        for (int s = 0; s < 9; s++) {
+            chain.putIn(s, 1);
+            chain.pass(2);
+        }
+        shares(chain, 9, 1, 2, 3, 4, 5, 6, 7, 8, 0);
     }
 
     private static void going() {
@@ -731,18 +746,15 @@ public final class PromiseTest {
 
     private static void mornings() {
         promise = 26;
-        // z = 0: x is 1, 6152, 12303, 18454, .. and DRAW 0, 10328, 3183, 10086, .. (x x modulo 65521, by 4, cut).
+        // z = 0 at moment 0: x is 1, DRAW 0: guest 0 into lane 0.
         ToastBelt x = laid("l2;k1;h10,20;g0,22,22;g0,0,99;");
-        int[] draws = new int[4];
-        for (int m = 0; m < draws.length; m++) {
-            long v = 6151L * m + 1;
-            draws[m] = (int) ((v * v) % 65521 / 4);
-        }
-        due("the first DRAW", draws[0], 0);
-        // Moment 0: guest 0 into lane 0. DRAW 0 each time x is 1.
         due("morning(0, 1, 0)", x.morning(0, 1, 0), 0);
         due("morning(0, 1, 1)", x.morning(0, 1, 1), 10);
         due("a morning changes nothing", x.count(4) + x.count(5) + x.count(9), 0);
+        // z = 1: x is 7920, 62726400 modulo 65521 is 22803, DRAW 5700: guest 0 of 2 into lane 356 modulo 2.
+        // At moment 1 x is 14071, 197993041 modulo 65521 is 54100, DRAW 13525: guest 1 into lane 845 modulo 2.
+        // Both ride at moment 1 and cool by 1.
+        due("morning(1, 2, 1)", x.morning(1, 2, 1), 9);
         // One guest alone: put in at moment 0 into lane 0, 12 and 12 brown, eaten ahead of moment 2 if 24 is right.
         ToastBelt y = laid("l2;k1;h10,20;g0,24,24;");
         due("morning(0, 2, 0), lies on the tray", y.morning(0, 2, 0), 0);
@@ -752,6 +764,13 @@ public final class PromiseTest {
         due("morning(0, 40, 1), M at most", y.morning(0, 40, 1), 20);
         ToastBelt pale = laid("l2;k1;h10,20;g0,23,23;");
         due("morning(0, 40, 0), not right", pale.morning(0, 40, 0), 0);
+        // Which lane it is at moment 0 tells how brown it falls: 24 of lane 0, 20 of lane 1.
+        ToastBelt cool = laid("l2;k1;h10,20;g0,20,20;");
+        int[][] lanes = {{0, 0}, {1, 0}, {2, 0}, {3, 1}, {4, 1}, {5, 0}, {6, 1}, {7, 1}, {8, 1}, {9, 1}, {5000, 1}, {9998, 0}, {9999, 1}};
+        for (int[] lane : lanes) {
+            due("morning(" + lane[0] + ", 3, 0) by lane 0", y.morning(lane[0], 3, 0), 1 - lane[1]);
+            due("morning(" + lane[0] + ", 3, 0) by lane 1", cool.morning(lane[0], 3, 0), lane[1]);
+        }
         // From now on: what lies on the tray is eaten, but not put in again.
         ToastBelt now = laid("l2;k1;h10,20;g0,20,20;");
         now.putIn(0, 1);
