@@ -724,7 +724,7 @@ public final class ToastBelt {
             int bits = 0;
             for (int s = 0; s < plan.guests; s++) {
                 int g = eaters[s];
-                if (g != NONE && isRight(g, s)) {
+                if (g >= 0 && isRight(g, s)) {
                     bits |= 1 << g;
                 }
             }

@@ -118,6 +118,16 @@ public final class PromiseTest {
         faulty(nine, NONE);
         faulty(nine + guest, 63);
         faulty(nine + "k3;" + guest, 66);
+        // The longest text, its last item whole, then cut off behind a figure and behind its letter.
+        String long198 = "k3;".repeat(66);
+        faulty(long198.substring(3) + "h1,2;", NONE);
+        faulty(long198 + "k3", 198);
+        faulty(long198.substring(3) + "l12;k", 199);
+        ToastBelt x = new ToastBelt();
+        write(x, "l25;");
+        x.wipe();
+        write(x, "l2");
+        due("fault() of what was wiped behind it", x.fault(), 0);
     }
 
     private static void laying() {
@@ -152,6 +162,12 @@ public final class PromiseTest {
         due("the last M holds", x.count(3), 2);
         due("lay() of the same text", x.lay(), 2);
         counts(x, 2, 6, 7, 1, 0, 0, 0, 0, 0, 0, 0, 36);
+        x.wipe();
+        write(x, "g0,1,2;");
+        due("lay() without l, k, h", x.lay(), 1);
+        counts(x, 1, 18, 3, 8, 0);
+        x.pass(9);
+        due("12 at most without h, behind another", x.count(3), 12);
         ToastBelt y = laid("g3,1,2;");
         counts(y, 1, 18, 3, 8, 0);
         y.pass(9);
