@@ -78,9 +78,44 @@ public final class FaceTest {
         due("signs 1 to 127 alone", source.chars().allMatch(c -> c > 0 && c < 128));
     }
 
+    /** Rule 11, and that what a class holds stays small. */
+    private static void sizes() throws IOException {
+        java.util.List<Class<?>> all = new java.util.ArrayList<>(java.util.List.of(ToastBelt.class.getDeclaredClasses()));
+        all.add(ToastBelt.class);
+        due("twelve classes at most", all.size() <= 12);
+        for (Class<?> c : all) {
+            long fields = java.util.Arrays.stream(c.getDeclaredFields()).filter(f -> !Modifier.isStatic(f.getModifiers())).count();
+            due(c + " has twenty fields at most", fields <= 20);
+            for (Method m : c.getDeclaredMethods()) {
+                due(m + " takes seven numbers at most", m.getParameterCount() <= 7);
+            }
+        }
+        int begun = 0, number = 0;
+        for (String line : Files.readAllLines(Path.of("src/main/java/ToastBelt.java"))) {
+            number++;
+            due("line " + number + " has 120 letters at most", line.length() <= 120);
+            // A method's first line and its last stand four or eight signs in.
+            if (line.matches("( {4}| {8})(\\w.*)?\\w+\\(.*\\) \\{") && !line.matches(" *(if|for|while|switch) .*")) {
+                begun = number;
+            } else if (line.matches("( {4}| {8})}") && begun > 0) {
+                due("the method of line " + begun + " is sixty lines at most", number - begun <= 60);
+            }
+        }
+        due("methods were found", begun > 0);
+    }
+
+    private static void constants() {
+        due("BAD is -1", ToastBelt.BAD == -1);
+        due("NO is -2", ToastBelt.NO == -2);
+        due("FULL is -3", ToastBelt.FULL == -3);
+        due("NONE is -4", ToastBelt.NONE == -4);
+    }
+
     public static void main(String[] args) throws IOException {
         members();
         words();
+        sizes();
+        constants();
         System.out.println(wrong == 0 ? "the face is as told" : wrong + " things are not so");
         if (wrong != 0) {
             System.exit(1);
